@@ -64,7 +64,7 @@ public final class BoothsEdgesTest {
         due.all("none of 40 is asked", lies(40, 40, 0), 1, 1);
     }
 
-    @Edge("Fractions are told by part: 0 the upper, 1 the lower number, in lowest terms (0 by 1 for none)")
+    @Edge("LIES. OUTSIDE (LOST less 2).")
     static void promise26_partTooSmallOrTooLarge(Due due) {
         for (int part : new int[] {-1, 2, MIN, MAX}) {
             Twins.refusedSome(due, "part " + part, LOST_OUTSIDE, w -> w.lies(5, 1, 1, part));

@@ -52,7 +52,7 @@ public final class BuyersEdgesTest {
         due.all("8 of the third", told(0, 0, 8, 0, 0, 0), 0, 1, 0, 1, 1, 1);
     }
 
-    @Edge("SUMS a, b, c (0 to 8 each, 1 to 8 together)")
+    @Edge("n (1 to 8) have voted for one of 3; SUMS of those 3 are told (together n)")
     static void promise31_togetherTooFewOrTooMany(Due due) {
         toldOutside(due, 0, 0, 0, 0, 0, 0);
         toldOutside(due, 3, 3, 3, 0, 0, 0);
@@ -135,7 +135,7 @@ public final class BuyersEdgesTest {
 
     // ---- 32 forced
 
-    @Edge("SUMS a, b, c (0 to 8 each, 1 to 8 together)")
+    @Edge("FORCED. OUTSIDE.")
     static void promise32_sumTooSmallOrTooLarge(Due due) {
         for (int place = 0; place < 3; place++) {
             for (int wrong : new int[] {-1, 9, MIN, MAX}) {

@@ -262,9 +262,20 @@ public final class KeysEdgesTest {
         }
     }
 
+    @Edge("Whether a pair is RIGHT: 1, 0.")
+    static void promise05_isNeverRefused(Due due) {
+        int[] numbers = {MIN, -10006, -1, 0, 10007, 1000001, MAX};
+        WallCount x = new WallCount();
+        for (int a : numbers) {
+            for (int b : numbers) {
+                due.is("A " + a + ", B " + b, x.right(a, b), 0);
+            }
+        }
+    }
+
     // ---- 6 open
 
-    @Edge("SHARE of a HOLDER of a pair's A. UNKNOWN; OUTSIDE: 1 to P less 1.")
+    @Edge("HOLDERS 1 to 5")
     static void promise06_noSuchHolder(Due due) {
         for (int i : new int[] {0, 6, -1, MIN, MAX}) {
             Twins.refusedSome(due, "HOLDER " + i, UNKNOWN, x -> x.open(i, 4));
@@ -430,7 +441,7 @@ public final class KeysEdgesTest {
         due.is("G to Q less 1 all the same", x.opened(9739, 3959, 14, 0), 2502);
     }
 
-    @Edge("m: the least of 0 to 200 with that power, if there is one.")
+    @Edge("OPENED: G to m (what = 0), m (1; NONE).")
     static void promise08_noSuchPower(Due due) {
         WallCount x = new WallCount();
         due.is("P less 1 is no power of G", x.opened(1, 10006, 2, 1), NONE);

@@ -270,7 +270,7 @@ public final class RowsEdgesTest {
 
     // ---- 21 ofRow
 
-    @Edge("6 HEAD. UNKNOWN; OUTSIDE.")
+    @Edge("Of a ROW: 0 VOTER, 1 A, 2 B, 3 hour, 4 what it is (0 to 4), 5 WORD, 6 HEAD. UNKNOWN; OUTSIDE.")
     static void promise21_noSuchRow(Due due) {
         Twins.refusedNew(due, "no ROW at all", UNKNOWN, x -> x.ofRow(0, 0));
         for (int row : new int[] {-1, 6, 29, 30, MIN, MAX}) {
@@ -279,7 +279,7 @@ public final class RowsEdgesTest {
         Twins.refusedFull(due, "ROW 30 of thirty", UNKNOWN, x -> x.ofRow(30, 6));
     }
 
-    @Edge("6 HEAD. UNKNOWN; OUTSIDE.")
+    @Edge("Of a ROW: 0 VOTER, 1 A, 2 B, 3 hour, 4 what it is (0 to 4), 5 WORD, 6 HEAD. UNKNOWN; OUTSIDE.")
     static void promise21_whatTooSmallOrTooLarge(Due due) {
         for (int what : new int[] {-1, 7, MIN, MAX}) {
             Twins.refusedSome(due, "what " + what, OUTSIDE, x -> x.ofRow(0, what));
@@ -625,7 +625,7 @@ public final class RowsEdgesTest {
         due.is("not empty any more", copy.parted(), 0);
     }
 
-    @Edge("PARTED: the first ROW at which COPY and THE WALL are not alike; none: one is the beginning of the other.")
+    @Edge("PARTED: the ROW; NONE.")
     static void promise25_bothAreFull(Due due) {
         WallCount alike = new WallCount();
         WallCount last = new WallCount();

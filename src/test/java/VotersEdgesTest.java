@@ -205,7 +205,7 @@ public final class VotersEdgesTest {
         due.all("4", new long[] {faultOf("a=0000"), faultOf("a=9999"), faultOf("b=1&a=1234&y=1"), faultOf("a=1|y=0001")}, 5, 5, 9, 9);
     }
 
-    @Edge("a TEST: a (AGE), y (YEARS) or b (BARRED), then <, > or =, and 1 to 3 digits.")
+    @Edge("at which no sign could make a text go on as it stands.")
     static void promise14_everySignAtEveryPlace(Due due) {
         String[] begun = {"", "a", "a>", "a>1", "a>12", "a>123", "a>1&", "a>1|"};
         String[] good = {"ayb", "<>=", "0123456789", "0123456789&|", "0123456789&|", "&|", "ayb", "ayb"};
