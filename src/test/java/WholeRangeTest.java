@@ -1,6 +1,6 @@
 /**
- * Calls whose answers hang on their arguments alone, over the whole range of these and one beyond each end,
- * held against the model; and all short texts.
+ * Calls with few enough arguments, over the whole range of these and one beyond each end, held against the model.
+ * Not whole: right() has 4 for the other number, open() the first key alone, drawn() chosen seeds, fault() short texts.
  */
 public final class WholeRangeTest {
     /** Nothing is promised of an object after as many calls. */
@@ -51,8 +51,10 @@ public final class WholeRangeTest {
     }
 
     private static void promise06_open() {
-        for (int a = -1; a <= 10008; a++) {
-            same(real().open(5, a), MODEL.open(5, a), "open", 5, a);
+        for (int i = 0; i <= 6; i++) {
+            for (int a = -1; a <= 10008; a++) {
+                same(real().open(i, a), MODEL.open(i, a), "open", i, a);
+            }
         }
     }
 
@@ -112,7 +114,7 @@ public final class WholeRangeTest {
         for (int all = 1; all <= 41; all++) {
             for (int n = -1; n <= all + 1; n++) {
                 for (int w = -1; w <= n + 1; w++) {
-                    for (int part = 0; part <= 1; part++) {
+                    for (int part = -1; part <= 2; part++) {
                         same(real().slips(all, n, w, part), MODEL.slips(all, n, w, part), "slips", all, n, w, part);
                     }
                 }
@@ -151,12 +153,14 @@ public final class WholeRangeTest {
     }
 
     private static void promise31_toldOf(int a, int b, int c) {
-        for (int ka = -1; ka <= Math.min(a + 1, 3); ka++) {
+        for (int ka = -1; ka <= a + 1; ka++) {
             for (int kb = -1; kb <= b + 1; kb++) {
                 for (int kc = -1; kc <= c + 1; kc++) {
-                    for (int j = 0; j <= 2; j++) {
-                        same(real().told(a, b, c, ka, kb, kc, j, 0), MODEL.told(a, b, c, ka, kb, kc, j, 0), "told", a, b, c, ka, kb, kc, j, 0);
-                        same(real().told(a, b, c, ka, kb, kc, j, 1), MODEL.told(a, b, c, ka, kb, kc, j, 1), "told", a, b, c, ka, kb, kc, j, 1);
+                    for (int j = -1; j <= 3; j++) {
+                        for (int part = -1; part <= 2; part++) {
+                            same(real().told(a, b, c, ka, kb, kc, j, part), MODEL.told(a, b, c, ka, kb, kc, j, part),
+                                "told", a, b, c, ka, kb, kc, j, part);
+                        }
                     }
                     same(real().forced(a, b, c, ka, kb, kc), MODEL.forced(a, b, c, ka, kb, kc), "forced", a, b, c, ka, kb, kc);
                 }
