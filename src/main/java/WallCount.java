@@ -42,7 +42,7 @@ public final class WallCount {
         secret = new Key();
         proof = new Proof();
         roll = new Roll();
-        wall = new Wall(roll);
+        wall = new Wall();
     }
 
     // ---- 1 keys, seals
@@ -233,7 +233,7 @@ public final class WallCount {
             case 1: return found.a;
             case 2: return found.b;
             case 3: return found.hour;
-            case 4: return wall.kindOf(row);
+            case 4: return wall.kindOf(row, roll);
             case 5: return found.word();
             case 6: return wall.headBehind(row);
             default: return OUTSIDE;
@@ -249,9 +249,9 @@ public final class WallCount {
 
     public int tally(int what) {
         switch (what) {
-            case 0: return wall.product(0);
-            case 1: return wall.product(1);
-            case 2: return wall.howManyAre(IS_COUNTED);
+            case 0: return wall.product(0, roll);
+            case 1: return wall.product(1, roll);
+            case 2: return wall.howManyAre(IS_COUNTED, roll);
             default: return OUTSIDE;
         }
     }
@@ -328,7 +328,7 @@ public final class WallCount {
 
     public int count(int what) {
         if (within(what, 10, 14)) {
-            return wall.howManyAre(what - 10);
+            return wall.howManyAre(what - 10, roll);
         }
         switch (what) {
             case 0: return wall.size();
@@ -766,15 +766,13 @@ public final class WallCount {
 
     /** THE WALL, CLOSE, and COPY of another wall. */
     private static final class Wall {
-        private final Roll roll;
         private final Row[] rows;
         private final int[] copied;
         private int size;
         private int copiedSize;
         private int closeHour;
 
-        Wall(Roll roll) {
-            this.roll = roll;
+        Wall() {
             rows = new Row[ROWS];
             copied = new int[ROWS];
             size = 0;
@@ -817,7 +815,8 @@ public final class WallCount {
             return number >= 0 && number < size && number < rows.length ? rows[number] : null;
         }
 
-        int kindOf(int number) {
+        /** What a ROW is, by who may vote now. */
+        int kindOf(int number, Roll roll) {
             Row row = at(number);
             if (row == null) {
                 return UNKNOWN;
@@ -845,10 +844,10 @@ public final class WallCount {
             return false;
         }
 
-        int howManyAre(int kind) {
+        int howManyAre(int kind, Roll roll) {
             int many = 0;
             for (int i = 0; i < size; i++) {
-                if (kindOf(i) == kind) {
+                if (kindOf(i, roll) == kind) {
                     many++;
                 }
             }
@@ -856,11 +855,11 @@ public final class WallCount {
         }
 
         /** The product of all A (part 0) or all B (1) that COUNT. */
-        int product(int part) {
+        int product(int part, Roll roll) {
             int product = 1;
             for (int i = 0; i < size; i++) {
                 Row row = at(i);
-                if (row != null && kindOf(i) == IS_COUNTED) {
+                if (row != null && kindOf(i, roll) == IS_COUNTED) {
                     product = product * (part == 0 ? row.a : row.b) % P;
                 }
             }

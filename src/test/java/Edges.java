@@ -14,6 +14,11 @@ final class Edges {
     private Edges() {
     }
 
+    /** All tests of one class, whatever promises they are of. */
+    static void run(Class<?> tests) throws IOException {
+        run(tests, 1, 0);
+    }
+
     /** All tests of one class; each promise from the first to the last must have one. */
     static void run(Class<?> tests, int first, int last) throws IOException {
         Method[] methods = tests.getDeclaredMethods();
@@ -39,9 +44,9 @@ final class Edges {
             many++;
         }
         for (int promise = first; promise <= last; promise++) {
-            all.holds("promise " + promise + " has a test of its edges", tested[promise]);
+            all.holds("promise " + promise + " has a test here", tested[promise]);
         }
-        System.out.println(many + " tests of edges");
+        System.out.println(many + " tests that quote the document");
         all.end();
     }
 

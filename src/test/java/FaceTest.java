@@ -8,6 +8,7 @@ import java.nio.file.Path;
 import java.util.Arrays;
 import java.util.Set;
 import java.util.TreeSet;
+import java.util.regex.Matcher;
 import java.util.regex.Pattern;
 
 /** The face is the document's and no more; the source keeps to LANGUAGE.md where that can be seen; no call throws. */
@@ -17,12 +18,19 @@ public final class FaceTest {
         + "count1";
     private static final Set<String> LONG = Set.of("lies", "slips", "told");
     private static final int[] EDGES = {Integer.MIN_VALUE, -1, 0, 1, 2, 30, 31, 40, 62, 5003, 10007, 1000000, Integer.MAX_VALUE};
+    private static final Path SOURCE = Path.of("src/main/java/WallCount.java");
+    private static final Path DOCUMENT = Path.of("../shared/DOC.md");
     private static final Due DUE = new Due();
 
     public static void main(String[] args) throws Exception {
         face();
         constants();
-        source();
+        String source = Files.readString(SOURCE);
+        source(source);
+        constructors(source);
+        if (Files.exists(DOCUMENT)) {
+            faceOfTheDocument(Files.readString(DOCUMENT), source);
+        }
         neverThrows();
         DUE.end();
     }
@@ -69,8 +77,7 @@ public final class FaceTest {
     }
 
     /** Words of the source that LANGUAGE.md leaves out. */
-    private static void source() throws Exception {
-        String text = Files.readString(Path.of("src/main/java/WallCount.java"));
+    private static void source(String text) {
         String[] never = {"import ", "package ", "->", "::", "try", "catch", "finally", "synchronized", "assert ", "Exact(",
             "new Random", "System.", "Thread", "double", "float", "instanceof", "@", "static {", "hashCode", "toString", " + \""};
         for (String word : never) {
@@ -78,6 +85,50 @@ public final class FaceTest {
             DUE.holds("the source has no " + word, !Pattern.compile(whole).matcher(text).find());
         }
         DUE.holds("plain signs alone", text.chars().allMatch(c -> c == '\n' || c >= 32 && c < 127));
+    }
+
+    /** LANGUAGE.md rule 12: a constructor hands out nothing of its object, so it calls nothing with an argument. */
+    private static void constructors(String text) {
+        Matcher constructor = Pattern.compile("(?m)^( +)(?:public )?[A-Z]\\w*\\([^)]*\\) \\{\\n((?:.*\\n)*?)\\1\\}").matcher(text);
+        int many = 0;
+        while (constructor.find()) {
+            many++;
+            String body = constructor.group(2);
+            DUE.holds("a constructor hands out nothing: " + body, !Pattern.compile("\\w\\([^)]|\\bthis\\b(?!\\.)").matcher(
+                body.replaceAll("(?:for|if|while) \\(", "")).find());
+        }
+        DUE.holds("constructors were found", many >= 3);
+    }
+
+    /** Each line of the document's face stands in the source, in its order and under its heading. */
+    private static void faceOfTheDocument(String document, String text) {
+        String face = document.substring(document.indexOf("```java") + 7);
+        face = face.substring(0, face.indexOf("```"));
+        int at = 0;
+        for (String line : face.split("\n")) {
+            String due = line.replaceAll(";$", "").trim();
+            int next = due.equals("}") ? at : text.indexOf(due, at);
+            DUE.holds("the source has, in this order: " + due, next >= at);
+            at = Math.max(at, next);
+        }
+        Matcher heading = Pattern.compile("Ahead of the calls `(\\w+)`(?:, `\\w+`)*, `(\\w+)` the interface says: (---- .*)\\.")
+            .matcher(document);
+        int many = 0;
+        while (heading.find()) {
+            many++;
+            int said = text.indexOf("// " + heading.group(3) + "\n");
+            int next = text.indexOf("// ----", said + 1);
+            int first = placeOf(text, heading.group(1));
+            DUE.holds(heading.group(3) + " stands ahead of its first call",
+                said >= 0 && said < first && text.substring(said, first).indexOf("    public ") == -1);
+            DUE.holds(heading.group(3) + " stands till its last call", placeOf(text, heading.group(2)) < next);
+        }
+        DUE.is("headings", many, 5);
+    }
+
+    private static int placeOf(String text, String method) {
+        Matcher found = Pattern.compile("public (?:int|long) " + method + "\\(").matcher(text);
+        return found.find() ? found.start() : -1;
     }
 
     /** Every call with edges of all kinds, on an empty object and on a full one. */
